@@ -792,9 +792,10 @@ public final class WindHall {
             int best = 0;
             int least = Integer.MAX_VALUE;
             for (int p = 0; p < count; p++) {
-                if (isIn(set, p) && sumBy(from, p, set) < least) {
+                int sum = isIn(set, p) ? sumBy(from, p, set) : Integer.MAX_VALUE;
+                if (sum < least) {
                     best = p;
-                    least = sumBy(from, p, set);
+                    least = sum;
                 }
             }
             return best;

@@ -5,6 +5,7 @@ public final class NewObjectTest {
     public static void main(String[] args) {
         theBalanceAtFirst(new WindHall());
         theRestAtFirst(new WindHall());
+        rawAtFirst(new WindHall());
         settlingAtFirst();
         constants();
         objectsAreApart();
@@ -44,6 +45,16 @@ public final class NewObjectTest {
         }
     }
 
+    private static void rawAtFirst(WindHall x) {
+        x.correct(1, 1000, 2000, 3000);
+        x.correct(4, 1000, 7, 0);
+        DUE.due(16, "at TIME 0", x.corrected(0, 1), -1000);
+        DUE.due(16, "at TIME 0", x.corrected(2, 1), -3000);
+        DUE.due(16, "at ANGLE 0", x.corrected(0, 2), -2000);
+        DUE.due(16, "at ANGLE 0", x.corrected(1, 2), -2000);
+        DUE.due(16, "at ANGLE 0", x.corrected(2, 2), -3007);
+    }
+
     private static void settlingAtFirst() {
         WindHall x = new WindHall();
         DUE.due(1, "settled 0", x.settled(0), 0);
@@ -57,7 +68,7 @@ public final class NewObjectTest {
         DUE.due(1, "the fourth at D 10", x.come(999990, 5, -1000000), 1);
         x = new WindHall();
         for (int k = 1; k <= 20; k++) {
-            DUE.due(1, "come beyond D 10", x.come(11 * k, 0, 0), k < 20 ? 0 : 3);
+            DUE.due(1, "come beyond D 10", x.come(11 * (k % 2), 0, 0), k < 20 ? 0 : 3);
         }
         x = new WindHall();
         DUE.due(1, "beyond LIMIT", x.come(0, 0, 1000001), 2);

@@ -35,6 +35,7 @@ public final class SheetsTest {
         WindHall x = new WindHall();
         x.tube(1);
         x.sheet(1, 2, 3);
+        x.lay(1, 0, 88);
         x.lay(1, 2, 77);
         DUE.due(30, "a refused sheet", x.sheet(1, 0, -1), -14);
         DUE.due(30, "a refused sheet", x.sheet(1, 0, 61), WindHall.BAD);
@@ -43,6 +44,8 @@ public final class SheetsTest {
         DUE.due(30, "a new row of the same", x.sheet(1, 2, 3), 1);
         DUE.due(32, "scan", x.scan(1, 2, 2), 0);
         DUE.due(33, "cells are 0", x.force(), 0);
+        DUE.due(32, "scan", x.scan(1, 2, 0), 0);
+        DUE.due(33, "the first one too", x.force(), 0);
         DUE.due(30, "a shorter row", x.sheet(1, 2, 2), 1);
         DUE.due(31, "lay behind it", x.lay(1, 2, 1), -12);
         DUE.due(32, "scan behind it", x.scan(1, 2, 2), -12);
