@@ -467,9 +467,7 @@ public final class WindHall {
             if (divisor == 0) {
                 return 0;
             }
-            long nearest = divisor > 0
-                    ? Math.floorDiv(2 * dividend + divisor, 2 * divisor)
-                    : Math.floorDiv(-2 * dividend - divisor, -2 * divisor);
+            long nearest = Math.floorDiv(2 * dividend + divisor, 2 * divisor);
             return (int) Math.max(-MOST_LOAD, Math.min(MOST_LOAD, nearest));
         }
 

@@ -3,17 +3,30 @@ final class Due {
     private final String name;
     private int asked = 0;
     private int wrong = 0;
+    private int promise = 0;
+    private String sentence = "";
 
     Due(String name) {
         this.name = name;
     }
 
-    void due(int promise, String call, long got, long want) {
+    /** What is asked from here on is about these words of the document. */
+    void says(int ofPromise, String words) {
+        promise = ofPromise;
+        sentence = words;
+    }
+
+    /** An answer about the words that were said last. */
+    void due(String call, long got, long want) {
+        due(promise, "\"" + sentence + "\": " + call, got, want);
+    }
+
+    void due(int ofPromise, String call, long got, long want) {
         asked++;
         if (got != want) {
             wrong++;
             if (wrong <= 50) {
-                System.out.println("promise " + promise + ": " + call + " answered " + got + ", due is " + want);
+                System.out.println("promise " + ofPromise + ": " + call + " answered " + got + ", due is " + want);
             }
         }
     }
