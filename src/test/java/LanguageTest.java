@@ -26,7 +26,9 @@ public final class LanguageTest {
     public static void main(String[] args) throws Exception {
         theFace();
         classesInside();
-        words(Files.readString(Path.of("src/main/java/WindHall.java")));
+        String source = Files.readString(Path.of("src/main/java/WindHall.java"));
+        words(source);
+        lengths(source);
         DUE.end();
     }
 
@@ -113,6 +115,20 @@ public final class LanguageTest {
         for (char c : source.toCharArray()) {
             rule(3, "characters", c < 128);
         }
+    }
+
+    /** Of the main class's methods and of those of the classes inside it, told by how far their lines stand in. */
+    private static void lengths(String source) {
+        int found = 0;
+        for (String indent : new String[] {"    ", "        "}) {
+            Matcher method = Pattern.compile("(?ms)^" + indent + "(\\w[^\\n;=]*\\)) \\{$(.*?)^" + indent + "\\}$").matcher(source);
+            while (method.find()) {
+                found++;
+                long lines = method.group(2).lines().count();
+                rule(11, method.group(1) + " has " + lines + " lines", lines <= 60);
+            }
+        }
+        rule(11, "methods were found", found > FACE.split(" ").length);
     }
 
     private static void rule(int number, String what, boolean holds) {
